@@ -35,12 +35,9 @@ public final class WeaveDesk {
         checkValueKind(kind);
         Container map = knownOfKind(maker, object, MAP);
         checkRoomForOneMore();
-        Place place = map.placeOfKey(key);
         Operation fresh = begin(PUT, maker, map, key);
         fresh.carryValue(kind, v);
-        fresh.overwrites = maker.liveNumbers(place);
-        place.takeValue(fresh);
-        return finish(fresh, maker);
+        return finishOverwriting(fresh, maker, map.placeOfKey(key));
     }
 
     public int insert(int replica, int object, int index, int kind, long v)
@@ -65,9 +62,7 @@ public final class WeaveDesk {
         checkRoomForOneMore();
         Operation fresh = begin(SET, maker, list, place.name);
         fresh.carryValue(kind, v);
-        fresh.overwrites = maker.liveNumbers(place);
-        place.takeValue(fresh);
-        return finish(fresh, maker);
+        return finishOverwriting(fresh, maker, place);
     }
 
     public int drop(int replica, int object, int place)
@@ -269,6 +264,12 @@ public final class WeaveDesk {
         return new Operation(made, kind, maker, object, place);
     }
 
+    private int finishOverwriting(Operation fresh, Replica maker, Place place) {
+        fresh.overwrites = maker.liveNumbers(place);
+        place.takeValue(fresh);
+        return finish(fresh, maker);
+    }
+
     private int finish(Operation complete, Replica maker) {
         complete.gatherCauses();
         operations[made] = complete;
@@ -441,12 +442,12 @@ public final class WeaveDesk {
             return count != other.count ? count > other.count : replica > other.replica;
         }
 
-        void carryValue(int kindOfValue, long number) {
-            valueKind = kindOfValue;
-            if (kindOfValue == NUMBER) {
-                v = number;
+        void carryValue(int valueKind, long v) {
+            this.valueKind = valueKind;
+            if (valueKind == NUMBER) {
+                this.v = v;
             } else {
-                container = new Container(this.number, kindOfValue);
+                container = new Container(number, valueKind);
             }
         }
 

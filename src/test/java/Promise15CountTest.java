@@ -2,6 +2,7 @@
 public final class Promise15CountTest {
     public static void main(String[] args) {
         heldAndWaiting();
+        greatestCountStays();
         reachedFromTheRoot();
         wideDocument();
         wrongInputs();
@@ -28,6 +29,19 @@ public final class Promise15CountTest {
             count(1, 1) -> 3
             count(2, 1) -> 0
             count(3, 1) -> 3
+            """);
+    }
+
+    private static void greatestCountStays() {
+        new Run("a lesser count that comes later changes nothing").then("""
+            put(0, -1, 0, 0, 0) -> 0
+            put(0, -1, 1, 0, 0) -> 1
+            put(0, -1, 2, 0, 0) -> 2
+            give(2, 1) -> 1
+            give(0, 1) -> 1
+            count(3, 1) -> 3
+            put(1, -1, 3, 0, 0) -> 3
+            operation(3, 1) -> 4
             """);
     }
 

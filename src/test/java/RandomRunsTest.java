@@ -16,6 +16,7 @@ public final class RandomRunsTest {
     private int giveShare;
     private int nestShare;
     private int wrongShare;
+    private boolean shallow;
     private final List<Integer> objects = new ArrayList<>();
     private int made;
 
@@ -28,16 +29,31 @@ public final class RandomRunsTest {
         giveShare = below(40);
         nestShare = below(60);
         wrongShare = below(4) == 0 ? 30 : 3;
+        if (run % 5 == 0) {
+            fillUp();
+        }
         objects.add(-1);
+    }
+
+    /** So many edits, most of them right, that there is no room for more at the end. */
+    private void fillUp() {
+        editShare = 92;
+        syncShare = 4;
+        giveShare = 4;
+        wrongShare = 1;
+        shallow = true;
     }
 
     public static void main(String[] args) {
         int wrong = 0;
+        int full = 0;
         for (int run = 0; run < RUNS && wrong < 5; run++) {
-            wrong += new RandomRunsTest(run).compare(run);
+            RandomRunsTest test = new RandomRunsTest(run);
+            wrong += test.compare(run);
+            full += test.made == 300 ? 1 : 0;
         }
-        System.out.println(RUNS + " runs, " + wrong + " with an answer not as due");
-        if (wrong != 0) {
+        System.out.println(RUNS + " runs, " + full + " with 300 operations, " + wrong + " with an answer not as due");
+        if (wrong != 0 || full == 0) {
             System.exit(1);
         }
     }
@@ -81,7 +97,7 @@ public final class RandomRunsTest {
     private String method() {
         int dice = below(100 + syncShare + giveShare);
         if (dice < editShare) {
-            return EDITS[below(EDITS.length)];
+            return shallow && below(2) == 0 ? "put" : EDITS[below(EDITS.length)];
         }
         if (dice < 100) {
             return READS[below(READS.length)];
@@ -91,7 +107,7 @@ public final class RandomRunsTest {
 
     private String[] arguments(String method) {
         switch (method) {
-            case "put": return texts(replica(), object(), key(), kind(), number());
+            case "put": return texts(replica(), shallow ? -1 : object(), key(), kind(), number());
             case "insert": return texts(replica(), object(), index(), kind(), number());
             case "set": return texts(replica(), object(), index(), kind(), number());
             case "drop": return texts(replica(), object(), index());
