@@ -6,9 +6,15 @@ public final class Promise02PutTest {
         putsInsideMaps();
         lateGreaterCountWins();
         manyLiveValues();
-        wrongInputs();
-        firstNamedExceptionIsThrown();
-        threeHundred();
+        noReplica();
+        noKey();
+        noKind();
+        anyNumber();
+        vIsLookedAtForNumberAlone();
+        objectIsNotKnown();
+        objectIsNoMap();
+        thereAre300();
+        thereAre300OfAllReplicas();
         Run.end();
     }
 
@@ -104,57 +110,125 @@ public final class Promise02PutTest {
             """);
     }
 
-    private static void wrongInputs() {
-        new Run("wrong inputs").then("""
-            put(-1, -1, 0, 0, 1) -> IllegalArgumentException
-            put(6, -1, 0, 0, 1) -> IllegalArgumentException
-            put(0, -1, -1, 0, 1) -> IllegalArgumentException
-            put(0, -1, 16, 0, 1) -> IllegalArgumentException
-            put(0, -1, 0, -1, 1) -> IllegalArgumentException
-            put(0, -1, 0, 3, 1) -> IllegalArgumentException
-            put(0, -2, 0, 0, 1) -> NoSuchElementException
-            put(0, 0, 0, 0, 1) -> NoSuchElementException
-            put(0, 300, 0, 0, 1) -> NoSuchElementException
-            put(0, 2147483647, 0, 0, 1) -> NoSuchElementException
-            put(0, -2147483648, 0, 0, 1) -> NoSuchElementException
-            count(0, 0) -> 0
-            put(0, -1, 0, 2, 0) -> 0
-            put(0, -1, 1, 0, 0) -> 1
-            put(0, -1, 2, 1, 0) -> 2
-            put(0, 0, 0, 0, 1) -> NoSuchElementException
-            put(0, 1, 0, 0, 1) -> NoSuchElementException
-            put(1, 2, 0, 0, 1) -> NoSuchElementException
-            drop(0, -1, 2) -> 3
-            put(0, 3, 0, 0, 1) -> NoSuchElementException
-            put(0, 2, 0, 0, 1) -> 4
-            count(0, 0) -> 5
-            count(1, 0) -> 5
+    private static void noReplica() {
+        new Run("there is no replica (first of all)")
+            .then("put(0, -1, 0, 0, 1) -> 0\n put(5, -1, 0, 0, 1) -> 1")
+            .refuses("IllegalArgumentException", """
+                put(-1, -1, 0, 0, 1)
+                put(6, -1, 0, 0, 1)
+                put(MIN, -1, 0, 0, 1)
+                put(MAX, -1, 0, 0, 1)
+                put(6, 9, 0, 0, 1)
+                put(-1, 9, 16, 3, 1)
+                """);
+    }
+
+    private static void noKey() {
+        new Run("there is no key")
+            .then("put(0, -1, 0, 0, 1) -> 0\n put(0, -1, 15, 0, 1) -> 1")
+            .refuses("IllegalArgumentException", """
+                put(0, -1, -1, 0, 1)
+                put(0, -1, 16, 0, 1)
+                put(0, -1, MIN, 0, 1)
+                put(0, -1, MAX, 0, 1)
+                put(0, 9, 16, 0, 1)
+                """);
+    }
+
+    private static void noKind() {
+        new Run("there is no kind (0..2)")
+            .then("put(0, -1, 0, 0, 1) -> 0\n put(0, -1, 0, 2, 1) -> 1\n look(0, -1, 0, 0) -> 2")
+            .refuses("IllegalArgumentException", """
+                put(0, -1, 0, -1, 1)
+                put(0, -1, 0, 3, 1)
+                put(0, -1, 0, MIN, 1)
+                put(0, -1, 0, MAX, 1)
+                put(0, 9, 0, 3, 1)
+                """);
+    }
+
+    private static void anyNumber() {
+        new Run("v is any number of 64 bits").then("""
+            put(0, -1, 0, 0, MIN) -> 0
+            put(0, -1, 1, 0, MAX) -> 1
+            put(0, -1, 2, 0, 0) -> 2
+            worth(0, -1, 0) -> -9223372036854775808
+            worth(0, -1, 1) -> 9223372036854775807
+            worth(0, -1, 2) -> 0
             """);
     }
 
-    private static void firstNamedExceptionIsThrown() {
-        new Run("the exception that is named first").then("""
-            put(6, 9, 16, 3, 1) -> IllegalArgumentException
-            put(0, 9, 16, 0, 1) -> IllegalArgumentException
-            put(0, 9, 0, 3, 1) -> IllegalArgumentException
+    private static void vIsLookedAtForNumberAlone() {
+        new Run("v is looked at for NUMBER alone").then("""
+            put(0, -1, 0, 1, MIN) -> 0
+            put(1, -1, 0, 1, MAX) -> 1
+            put(0, -1, 1, 2, -1) -> 2
+            put(1, -1, 1, 2, 16) -> 3
+            same(0, 1) -> true
+            size(0, 0) -> 0
+            size(1, 3) -> 0
+            worth(0, -1, 0) -> UnsupportedOperationException
             """);
     }
 
-    private static void threeHundred() {
-        Run run = new Run("three hundred");
+    private static void objectIsNotKnown() {
+        new Run("the REPLICA does not know this OBJECT")
+            .then("put(0, -1, 0, 1, 0) -> 0\n put(0, -1, 1, 0, 0) -> 1\n add(0, -1, 1, 1) -> 2\n drop(0, -1, 1) -> 3")
+            .then("put(1, -1, 0, 1, 0) -> 4\n put(1, 4, 0, 1, 0) -> 5\n give(5, 0) -> 0")
+            .refuses("NoSuchElementException", """
+                put(0, -2, 0, 0, 1)
+                put(0, 1, 0, 0, 1)
+                put(0, 2, 0, 0, 1)
+                put(0, 3, 0, 0, 1)
+                put(0, 4, 0, 0, 1)
+                put(0, 5, 0, 0, 1)
+                put(0, 6, 0, 0, 1)
+                put(0, 300, 0, 0, 1)
+                put(0, MIN, 0, 0, 1)
+                put(0, MAX, 0, 0, 1)
+                put(1, 0, 0, 0, 1)
+                """)
+            .then("put(0, 0, 0, 0, 1) -> 6\n put(0, -1, 0, 0, 1) -> 7\n put(0, 0, 0, 0, 1) -> 8");
+    }
+
+    private static void objectIsNoMap() {
+        new Run("or it is no map")
+            .then("put(0, -1, 0, 2, 0) -> 0\n insert(0, 0, 0, 2, 0) -> 1\n insert(0, 0, 0, 1, 0) -> 2")
+            .refuses("NoSuchElementException", """
+                put(0, 0, 0, 0, 1)
+                put(0, 1, 0, 0, 1)
+                """)
+            .then("put(0, 2, 0, 0, 1) -> 3");
+    }
+
+    private static void thereAre300() {
+        new Run("there are 300")
+            .each(0, 300, "put(0, -1, 3, 0, #) -> #")
+            .refuses("IndexOutOfBoundsException", """
+                put(0, -1, 3, 0, 1)
+                put(5, -1, 0, 2, 1)
+                """)
+            .refuses("IllegalArgumentException", """
+                put(6, -1, 3, 0, 1)
+                put(0, -1, 16, 0, 1)
+                put(0, -1, 3, 3, 1)
+                """)
+            .refuses("NoSuchElementException", """
+                put(0, 300, 3, 0, 1)
+                put(0, 299, 3, 0, 1)
+                """)
+            .then("worth(0, -1, 3) -> 299");
+    }
+
+    private static void thereAre300OfAllReplicas() {
+        Run run = new Run("there are 300 of all REPLICAS together");
         for (int i = 0; i < 300; i++) {
             run.then("put(" + i % 6 + ", -1, " + i % 16 + ", " + i % 3 + ", 1) -> " + i);
         }
-        run.then("""
-            put(0, -1, 0, 0, 1) -> IndexOutOfBoundsException
-            put(0, -1, 16, 0, 1) -> IllegalArgumentException
-            put(0, 3, 0, 0, 1) -> NoSuchElementException
-            put(0, 999, 0, 0, 1) -> NoSuchElementException
-            count(0, 0) -> 300
-            count(1, 0) -> 50
-            operation(299, 2) -> 5
-            operation(300, 2) -> IndexOutOfBoundsException
-            sync(5, 0) -> 50
-            """);
+        run.each(0, 6, "count(1, #) -> 50\n count(0, #) -> 300")
+            .refuses("IndexOutOfBoundsException", """
+                put(0, -1, 0, 0, 1)
+                put(5, -1, 15, 1, 1)
+                """);
     }
 }

@@ -8,8 +8,15 @@ public final class Promise03InsertTest {
         lesserStampGoesBehindWholeBranches();
         indexPassesOverDropped();
         listsInsideLists();
-        wrongInputs();
-        threeHundred();
+        noReplica();
+        noKind();
+        vIsLookedAtForNumberAlone();
+        objectIsNotKnown();
+        objectIsNoList();
+        indexBelow0();
+        indexBeyondHowManyAreThere();
+        indexBeyondWhenSomeAreNotThere();
+        thereAre300();
         Run.end();
     }
 
@@ -147,44 +154,125 @@ public final class Promise03InsertTest {
             """);
     }
 
-    private static void wrongInputs() {
-        new Run("wrong inputs").then("""
+    private static void noReplica() {
+        new Run("IllegalArgumentException likewise: replica")
+            .then("put(0, -1, 0, 2, 0) -> 0\n put(5, -1, 0, 2, 0) -> 1\n insert(0, 0, 0, 0, 1) -> 2\n insert(5, 1, 0, 0, 1) -> 3")
+            .refuses("IllegalArgumentException", """
+                insert(-1, 0, 0, 0, 1)
+                insert(6, 0, 0, 0, 1)
+                insert(MIN, 0, 0, 0, 1)
+                insert(MAX, 0, 0, 0, 1)
+                insert(6, 9, 9, 9, 1)
+                """);
+    }
+
+    private static void noKind() {
+        new Run("IllegalArgumentException likewise: kind")
+            .then("put(0, -1, 0, 2, 0) -> 0\n insert(0, 0, 0, 0, 1) -> 1\n insert(0, 0, 0, 2, 1) -> 2")
+            .refuses("IllegalArgumentException", """
+                insert(0, 0, 0, -1, 1)
+                insert(0, 0, 0, 3, 1)
+                insert(0, 0, 0, MIN, 1)
+                insert(0, 0, 0, MAX, 1)
+                insert(0, 9, 0, 3, 1)
+                insert(0, 0, 9, 3, 1)
+                """);
+    }
+
+    private static void vIsLookedAtForNumberAlone() {
+        new Run("v is looked at for NUMBER alone").then("""
             put(0, -1, 0, 2, 0) -> 0
-            put(0, -1, 1, 0, 0) -> 1
-            insert(-1, 0, 0, 0, 1) -> IllegalArgumentException
-            insert(6, 9, 9, 9, 1) -> IllegalArgumentException
-            insert(0, 0, 0, -1, 1) -> IllegalArgumentException
-            insert(0, 9, 9, 3, 1) -> IllegalArgumentException
-            insert(0, -1, 0, 0, 1) -> NoSuchElementException
-            insert(0, -1, 9, 0, 1) -> NoSuchElementException
-            insert(0, 1, 0, 0, 1) -> NoSuchElementException
-            insert(0, 2, 0, 0, 1) -> NoSuchElementException
-            insert(0, -2, 0, 0, 1) -> NoSuchElementException
-            insert(1, 0, 0, 0, 1) -> NoSuchElementException
-            insert(0, 0, -1, 0, 1) -> IndexOutOfBoundsException
-            insert(0, 0, 1, 0, 1) -> IndexOutOfBoundsException
-            insert(0, 0, 2147483647, 0, 1) -> IndexOutOfBoundsException
-            insert(0, 0, -2147483648, 0, 1) -> IndexOutOfBoundsException
-            count(0, 0) -> 2
-            size(0, 0) -> 0
+            sync(0, 1) -> 1
+            insert(0, 0, 0, 1, MIN) -> 1
+            insert(1, 0, 0, 1, MAX) -> 2
+            same(0, 1) -> true
+            insert(0, 0, 1, 0, MIN) -> 3
+            worth(0, 0, 1) -> -9223372036854775808
             """);
     }
 
-    private static void threeHundred() {
-        Run run = new Run("three hundred").then("put(0, -1, 0, 2, 0) -> 0");
-        for (int i = 1; i < 300; i++) {
-            run.then("insert(0, 0, " + (i - 1) + ", 0, " + i + ") -> " + i);
-        }
-        run.then("""
-            insert(0, 0, 299, 0, 1) -> IndexOutOfBoundsException
-            insert(0, -1, 0, 0, 1) -> NoSuchElementException
-            insert(0, 0, 0, 3, 1) -> IllegalArgumentException
-            size(0, 0) -> 299
-            worth(0, 0, 298) -> 299
-            worth(0, 0, 0) -> 1
-            give(299, 1) -> 0
-            sync(0, 2) -> 300
-            same(0, 2) -> true
-            """);
+    private static void objectIsNotKnown() {
+        new Run("NoSuchElementException likewise: the OBJECT is not known")
+            .then("put(0, -1, 0, 2, 0) -> 0\n insert(0, 0, 0, 0, 0) -> 1\n add(0, 0, 0, 1) -> 2\n drop(0, 0, 0) -> 3")
+            .then("put(1, -1, 0, 2, 0) -> 4\n insert(1, 4, 0, 2, 0) -> 5\n give(5, 0) -> 0")
+            .refuses("NoSuchElementException", """
+                insert(0, -2, 0, 0, 1)
+                insert(0, 1, 0, 0, 1)
+                insert(0, 2, 0, 0, 1)
+                insert(0, 3, 0, 0, 1)
+                insert(0, 4, 0, 0, 1)
+                insert(0, 5, 0, 0, 1)
+                insert(0, 6, 0, 0, 1)
+                insert(0, 300, 0, 0, 1)
+                insert(0, MIN, 0, 0, 1)
+                insert(0, MAX, 0, 0, 1)
+                insert(1, 0, 0, 0, 1)
+                insert(1, 0, 9, 0, 1)
+                """);
+    }
+
+    private static void objectIsNoList() {
+        new Run("NoSuchElementException: no list")
+            .then("put(0, -1, 0, 1, 0) -> 0\n put(0, 0, 0, 2, 0) -> 1\n insert(0, 1, 0, 1, 0) -> 2")
+            .refuses("NoSuchElementException", """
+                insert(0, -1, 0, 0, 1)
+                insert(0, -1, 9, 0, 1)
+                insert(0, 0, 0, 0, 1)
+                insert(0, 2, 0, 0, 1)
+                """);
+    }
+
+    private static void indexBelow0() {
+        new Run("index is not 0 to how many are THERE: too small")
+            .then("put(0, -1, 0, 2, 0) -> 0")
+            .refuses("IndexOutOfBoundsException", """
+                insert(0, 0, -1, 0, 1)
+                insert(0, 0, MIN, 0, 1)
+                """)
+            .then("insert(0, 0, 0, 0, 1) -> 1")
+            .refuses("IndexOutOfBoundsException", """
+                insert(0, 0, -1, 0, 1)
+                insert(0, 0, MIN, 0, 1)
+                """);
+    }
+
+    private static void indexBeyondHowManyAreThere() {
+        new Run("index is not 0 to how many are THERE: too large")
+            .then("put(0, -1, 0, 2, 0) -> 0")
+            .refuses("IndexOutOfBoundsException", """
+                insert(0, 0, 1, 0, 1)
+                insert(0, 0, MAX, 0, 1)
+                """)
+            .then("insert(0, 0, 0, 0, 1) -> 1\n insert(0, 0, 1, 0, 2) -> 2")
+            .refuses("IndexOutOfBoundsException", """
+                insert(0, 0, 3, 0, 1)
+                insert(0, 0, MAX, 0, 1)
+                """)
+            .then("insert(0, 0, 2, 0, 3) -> 3\n worth(0, 0, 2) -> 3");
+    }
+
+    private static void indexBeyondWhenSomeAreNotThere() {
+        new Run("how many are THERE, not how many there have been")
+            .then("put(0, -1, 0, 2, 0) -> 0\n insert(0, 0, 0, 0, 1) -> 1\n insert(0, 0, 1, 0, 2) -> 2\n drop(0, 0, 0) -> 3")
+            .then("sync(0, 1) -> 4\n insert(1, 0, 1, 0, 9) -> 4")
+            .refuses("IndexOutOfBoundsException", """
+                insert(0, 0, 2, 0, 1)
+                insert(1, 0, 3, 0, 1)
+                """)
+            .then("insert(0, 0, 1, 0, 3) -> 5\n insert(1, 0, 2, 0, 4) -> 6");
+    }
+
+    private static void thereAre300() {
+        new Run("or there are 300")
+            .then("put(0, -1, 0, 2, 0) -> 0")
+            .each(1, 300, "insert(0, 0, #-, 0, #) -> #")
+            .refuses("IndexOutOfBoundsException", """
+                insert(0, 0, 0, 0, 1)
+                insert(0, 0, 299, 0, 1)
+                insert(0, 0, 300, 0, 1)
+                """)
+            .refuses("NoSuchElementException", "insert(0, -1, 0, 0, 1)\n insert(1, 0, 0, 0, 1)")
+            .refuses("IllegalArgumentException", "insert(0, 0, 0, 3, 1)\n insert(6, 0, 0, 0, 1)")
+            .then("size(0, 0) -> 299\n worth(0, 0, 0) -> 1\n worth(0, 0, 298) -> 299\n sync(0, 2) -> 300\n same(0, 2) -> true");
     }
 }

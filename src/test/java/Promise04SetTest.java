@@ -5,8 +5,14 @@ public final class Promise04SetTest {
         setsAtTheSameTime();
         setMakesObjects();
         setAgainstDrop();
-        wrongInputs();
-        threeHundred();
+        noReplica();
+        noKind();
+        vIsLookedAtForNumberAlone();
+        objectIsNotKnown();
+        objectIsNoList();
+        thereIsNone();
+        droppedOnesAreNone();
+        thereAre300();
         Run.end();
     }
 
@@ -84,37 +90,105 @@ public final class Promise04SetTest {
             """);
     }
 
-    private static void wrongInputs() {
-        new Run("wrong inputs").then("""
+    private static void noReplica() {
+        new Run("likewise: replica")
+            .then("put(5, -1, 0, 2, 0) -> 0\n insert(5, 0, 0, 0, 1) -> 1\n sync(5, 0) -> 2")
+            .then("set(0, 0, 0, 0, 1) -> 2\n set(5, 0, 0, 0, 1) -> 3")
+            .refuses("IllegalArgumentException", """
+                set(-1, 0, 0, 0, 1)
+                set(6, 0, 0, 0, 1)
+                set(MIN, 0, 0, 0, 1)
+                set(MAX, 0, 0, 0, 1)
+                set(6, 9, 9, 9, 1)
+                """);
+    }
+
+    private static void noKind() {
+        new Run("likewise: kind")
+            .then("put(0, -1, 0, 2, 0) -> 0\n insert(0, 0, 0, 0, 1) -> 1\n set(0, 0, 0, 0, 1) -> 2\n set(0, 0, 0, 2, 1) -> 3")
+            .refuses("IllegalArgumentException", """
+                set(0, 0, 0, -1, 1)
+                set(0, 0, 0, 3, 1)
+                set(0, 0, 0, MIN, 1)
+                set(0, 0, 0, MAX, 1)
+                set(0, 9, 0, 3, 1)
+                set(0, 0, 9, 3, 1)
+                """);
+    }
+
+    private static void vIsLookedAtForNumberAlone() {
+        new Run("v is looked at for NUMBER alone").then("""
             put(0, -1, 0, 2, 0) -> 0
-            insert(0, 0, 0, 0, 1) -> 1
-            set(-1, 0, 0, 0, 1) -> IllegalArgumentException
-            set(6, 9, 9, 9, 1) -> IllegalArgumentException
-            set(0, 0, 0, 3, 1) -> IllegalArgumentException
-            set(0, 9, 9, -1, 1) -> IllegalArgumentException
-            set(0, -1, 0, 0, 1) -> NoSuchElementException
-            set(0, 1, 0, 0, 1) -> NoSuchElementException
-            set(0, 7, 9, 0, 1) -> NoSuchElementException
-            set(1, 0, 0, 0, 1) -> NoSuchElementException
-            set(0, 0, -1, 0, 1) -> IndexOutOfBoundsException
-            set(0, 0, 1, 0, 1) -> IndexOutOfBoundsException
-            set(0, 0, -2147483648, 0, 1) -> IndexOutOfBoundsException
-            drop(0, 0, 0) -> 2
-            set(0, 0, 0, 0, 1) -> IndexOutOfBoundsException
-            count(0, 0) -> 3
+            insert(0, 0, 0, 0, 0) -> 1
+            sync(0, 1) -> 2
+            set(0, 0, 0, 2, MIN) -> 2
+            set(1, 0, 0, 2, MAX) -> 3
+            same(0, 1) -> true
+            set(0, 0, 0, 0, MAX) -> 4
+            worth(0, 0, 0) -> 9223372036854775807
             """);
     }
 
-    private static void threeHundred() {
-        Run run = new Run("three hundred").then("put(0, -1, 0, 2, 0) -> 0\n insert(0, 0, 0, 0, 1) -> 1");
-        for (int i = 2; i < 300; i++) {
-            run.then("set(0, 0, 0, 0, " + i + ") -> " + i);
-        }
-        run.then("""
-            set(0, 0, 0, 0, 1) -> IndexOutOfBoundsException
-            set(0, -1, 0, 0, 1) -> NoSuchElementException
-            worth(0, 0, 0) -> 299
-            look(0, 0, 0, 2) -> 1
-            """);
+    private static void objectIsNotKnown() {
+        new Run("likewise: the OBJECT is not known")
+            .then("put(0, -1, 0, 2, 0) -> 0\n insert(0, 0, 0, 0, 0) -> 1\n add(0, 0, 0, 1) -> 2\n set(0, 0, 0, 0, 1) -> 3")
+            .then("put(1, -1, 0, 2, 0) -> 4\n insert(1, 4, 0, 2, 0) -> 5\n give(5, 0) -> 0")
+            .refuses("NoSuchElementException", """
+                set(0, -2, 0, 0, 1)
+                set(0, 1, 0, 0, 1)
+                set(0, 2, 0, 0, 1)
+                set(0, 3, 0, 0, 1)
+                set(0, 4, 0, 0, 1)
+                set(0, 5, 0, 0, 1)
+                set(0, 6, 0, 0, 1)
+                set(0, 300, 0, 0, 1)
+                set(0, MIN, 0, 0, 1)
+                set(0, MAX, 0, 0, 1)
+                set(1, 0, 0, 0, 1)
+                set(1, 0, 9, 0, 1)
+                """);
+    }
+
+    private static void objectIsNoList() {
+        new Run("likewise: no list")
+            .then("put(0, -1, 0, 1, 0) -> 0\n put(0, 0, 0, 2, 0) -> 1\n insert(0, 1, 0, 1, 0) -> 2")
+            .refuses("NoSuchElementException", """
+                set(0, -1, 0, 0, 1)
+                set(0, -1, 9, 0, 1)
+                set(0, 0, 0, 0, 1)
+                set(0, 2, 0, 0, 1)
+                """);
+    }
+
+    private static void thereIsNone() {
+        new Run("there is none at the index")
+            .then("put(0, -1, 0, 2, 0) -> 0")
+            .refuses("IndexOutOfBoundsException", "set(0, 0, 0, 0, 1)\n set(0, 0, -1, 0, 1)")
+            .then("insert(0, 0, 0, 0, 1) -> 1\n insert(0, 0, 1, 0, 2) -> 2")
+            .refuses("IndexOutOfBoundsException", """
+                set(0, 0, -1, 0, 1)
+                set(0, 0, 2, 0, 1)
+                set(0, 0, MIN, 0, 1)
+                set(0, 0, MAX, 0, 1)
+                """)
+            .then("set(0, 0, 1, 0, 22) -> 3\n set(0, 0, 0, 0, 11) -> 4\n worth(0, 0, 0) -> 11\n worth(0, 0, 1) -> 22");
+    }
+
+    private static void droppedOnesAreNone() {
+        new Run("one that is not THERE is none")
+            .then("put(0, -1, 0, 2, 0) -> 0\n insert(0, 0, 0, 0, 1) -> 1\n insert(0, 0, 1, 0, 2) -> 2\n drop(0, 0, 0) -> 3")
+            .refuses("IndexOutOfBoundsException", "set(0, 0, 1, 0, 1)")
+            .then("set(0, 0, 0, 0, 22) -> 4\n operation(4, 4) -> 2\n drop(0, 0, 0) -> 5")
+            .refuses("IndexOutOfBoundsException", "set(0, 0, 0, 0, 1)");
+    }
+
+    private static void thereAre300() {
+        new Run("or there are 300")
+            .then("put(0, -1, 0, 2, 0) -> 0\n insert(0, 0, 0, 0, 1) -> 1")
+            .each(2, 300, "set(0, 0, 0, 0, #) -> #")
+            .refuses("IndexOutOfBoundsException", "set(0, 0, 0, 0, 1)\n set(0, 0, 1, 0, 1)")
+            .refuses("NoSuchElementException", "set(0, -1, 0, 0, 1)\n set(1, 0, 0, 0, 1)")
+            .refuses("IllegalArgumentException", "set(0, 0, 0, 3, 1)\n set(6, 0, 0, 0, 1)")
+            .then("worth(0, 0, 0) -> 299\n look(0, 0, 0, 2) -> 1");
     }
 }

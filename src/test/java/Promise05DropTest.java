@@ -4,8 +4,12 @@ public final class Promise05DropTest {
         dropsOfKeys();
         dropsOfElements();
         dropOverwritesOnlyWhatIsSeen();
-        wrongInputs();
-        threeHundred();
+        noReplica();
+        objectIsNotKnown();
+        keyIsNotThere();
+        keyBeyond0To15();
+        elementIsNotThere();
+        thereAre300();
         Run.end();
     }
 
@@ -67,38 +71,90 @@ public final class Promise05DropTest {
             """);
     }
 
-    private static void wrongInputs() {
-        new Run("wrong inputs").then("""
-            put(0, -1, 0, 2, 0) -> 0
-            put(0, -1, 1, 0, 0) -> 1
-            drop(-1, -1, 0) -> IllegalArgumentException
-            drop(6, 9, 99) -> IllegalArgumentException
-            drop(0, 1, 0) -> NoSuchElementException
-            drop(0, 2, 99) -> NoSuchElementException
-            drop(0, -2, 0) -> NoSuchElementException
-            drop(1, 0, 0) -> NoSuchElementException
-            drop(0, -1, -1) -> IndexOutOfBoundsException
-            drop(0, -1, 16) -> IndexOutOfBoundsException
-            drop(0, -1, 2) -> IndexOutOfBoundsException
-            drop(0, -1, 2147483647) -> IndexOutOfBoundsException
-            drop(0, 0, 0) -> IndexOutOfBoundsException
-            drop(0, 0, -1) -> IndexOutOfBoundsException
-            drop(1, -1, 0) -> IndexOutOfBoundsException
-            count(0, 0) -> 2
-            count(1, 1) -> 0
-            """);
+    private static void noReplica() {
+        new Run("IllegalArgumentException: replica")
+            .then("put(5, -1, 0, 0, 1) -> 0\n sync(5, 0) -> 1\n drop(0, -1, 0) -> 1\n drop(5, -1, 0) -> 2\n put(0, -1, 0, 0, 1) -> 3")
+            .refuses("IllegalArgumentException", """
+                drop(-1, -1, 0)
+                drop(6, -1, 0)
+                drop(MIN, -1, 0)
+                drop(MAX, -1, 0)
+                drop(6, 9, 99)
+                """);
     }
 
-    private static void threeHundred() {
-        Run run = new Run("three hundred");
-        for (int i = 0; i < 300; i++) {
-            run.then("put(0, -1, 3, 0, 1) -> " + i);
-        }
-        run.then("""
-            drop(0, -1, 3) -> IndexOutOfBoundsException
-            drop(0, 5, 3) -> NoSuchElementException
-            drop(6, -1, 3) -> IllegalArgumentException
-            size(0, -1) -> 1
-            """);
+    private static void objectIsNotKnown() {
+        new Run("the OBJECT is not known")
+            .then("put(0, -1, 0, 2, 0) -> 0\n insert(0, 0, 0, 0, 0) -> 1\n add(0, 0, 0, 1) -> 2\n put(0, -1, 1, 0, 1) -> 3")
+            .then("put(1, -1, 0, 2, 0) -> 4\n insert(1, 4, 0, 2, 0) -> 5\n give(5, 0) -> 0\n drop(0, -1, 1) -> 6")
+            .refuses("NoSuchElementException", """
+                drop(0, -2, 0)
+                drop(0, 1, 0)
+                drop(0, 2, 0)
+                drop(0, 3, 0)
+                drop(0, 4, 0)
+                drop(0, 5, 0)
+                drop(0, 6, 0)
+                drop(0, 7, 0)
+                drop(0, 300, 0)
+                drop(0, MIN, 0)
+                drop(0, MAX, 0)
+                drop(1, 0, 0)
+                drop(1, 0, 99)
+                """)
+            .then("drop(0, 0, 0) -> 7\n drop(0, -1, 0) -> 8");
+    }
+
+    private static void keyIsNotThere() {
+        new Run("a key is not THERE")
+            .then("put(0, -1, 0, 1, 0) -> 0\n put(0, 0, 5, 0, 1) -> 1\n put(0, -1, 15, 0, 1) -> 2")
+            .refuses("IndexOutOfBoundsException", """
+                drop(0, -1, 5)
+                drop(0, 0, 0)
+                drop(0, 0, 15)
+                drop(1, -1, 0)
+                """)
+            .then("drop(0, -1, 15) -> 3")
+            .refuses("IndexOutOfBoundsException", "drop(0, -1, 15)")
+            .then("drop(0, -1, 0) -> 4\n drop(0, 0, 5) -> 5\n size(0, -1) -> 0");
+    }
+
+    private static void keyBeyond0To15() {
+        new Run("a key beyond 0..15, too")
+            .then("put(0, -1, 0, 0, 1) -> 0\n put(0, -1, 15, 0, 1) -> 1")
+            .refuses("IndexOutOfBoundsException", """
+                drop(0, -1, -1)
+                drop(0, -1, 16)
+                drop(0, -1, MIN)
+                drop(0, -1, MAX)
+                """)
+            .refuses("NoSuchElementException", "drop(0, 9, 16)")
+            .then("drop(0, -1, 15) -> 2\n drop(0, -1, 0) -> 3");
+    }
+
+    private static void elementIsNotThere() {
+        new Run("the element at an index is not THERE")
+            .then("put(0, -1, 0, 2, 0) -> 0")
+            .refuses("IndexOutOfBoundsException", "drop(0, 0, 0)\n drop(0, 0, -1)")
+            .then("insert(0, 0, 0, 0, 1) -> 1\n insert(0, 0, 1, 0, 2) -> 2")
+            .refuses("IndexOutOfBoundsException", """
+                drop(0, 0, -1)
+                drop(0, 0, 2)
+                drop(0, 0, MIN)
+                drop(0, 0, MAX)
+                """)
+            .then("drop(0, 0, 1) -> 3")
+            .refuses("IndexOutOfBoundsException", "drop(0, 0, 1)")
+            .then("drop(0, 0, 0) -> 4")
+            .refuses("IndexOutOfBoundsException", "drop(0, 0, 0)");
+    }
+
+    private static void thereAre300() {
+        new Run("or there are 300")
+            .each(0, 300, "put(0, -1, 3, 0, #) -> #")
+            .refuses("IndexOutOfBoundsException", "drop(0, -1, 3)\n drop(0, -1, 4)")
+            .refuses("NoSuchElementException", "drop(0, 5, 3)\n drop(0, 300, 3)")
+            .refuses("IllegalArgumentException", "drop(6, -1, 3)")
+            .then("size(0, -1) -> 1\n worth(0, -1, 3) -> 299");
     }
 }

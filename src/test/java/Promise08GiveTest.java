@@ -9,7 +9,12 @@ public final class Promise08GiveTest {
         waitsForWhatItGoesTo();
         earlierOfTheSameReplicaIsNoCause();
         backwards();
-        wrongInputs();
+        noReplica();
+        noSuchOperation();
+        noSuchOperationWhenThereAre300();
+        noneMoreForOneThatWaits();
+        noneMoreForOneThatIsHeld();
+        oneThatNobodyElseHoldsStill();
         Run.end();
     }
 
@@ -128,19 +133,72 @@ public final class Promise08GiveTest {
         run.then("count(2, 3) -> 119\n give(0, 3) -> 120\n count(2, 3) -> 0\n same(0, 3) -> true");
     }
 
-    private static void wrongInputs() {
-        new Run("wrong inputs").then("""
-            give(0, 0) -> IndexOutOfBoundsException
-            put(0, -1, 0, 0, 1) -> 0
-            give(0, -1) -> IllegalArgumentException
-            give(0, 6) -> IllegalArgumentException
-            give(9, 6) -> IllegalArgumentException
-            give(-1, 1) -> IndexOutOfBoundsException
-            give(1, 1) -> IndexOutOfBoundsException
-            give(300, 1) -> IndexOutOfBoundsException
-            give(-2147483648, 1) -> IndexOutOfBoundsException
+    private static void noReplica() {
+        new Run("IllegalArgumentException: to")
+            .then("put(0, -1, 0, 0, 1) -> 0")
+            .refuses("IllegalArgumentException", """
+                give(0, -1)
+                give(0, 6)
+                give(0, MIN)
+                give(0, MAX)
+                give(9, 6)
+                give(-1, -1)
+                """)
+            .then("give(0, 0) -> 0\n give(0, 5) -> 1");
+    }
+
+    private static void noSuchOperation() {
+        new Run("IndexOutOfBoundsException: there is no such OPERATION")
+            .refuses("IndexOutOfBoundsException", "give(0, 0)\n give(-1, 0)")
+            .then("put(0, -1, 0, 0, 1) -> 0")
+            .refuses("IndexOutOfBoundsException", """
+                give(-1, 1)
+                give(1, 1)
+                give(299, 1)
+                give(300, 1)
+                give(MIN, 1)
+                give(MAX, 1)
+                """)
+            .then("put(0, -1, 0, 0, 1) -> 1\n give(1, 1) -> 0\n give(0, 1) -> 2");
+    }
+
+    private static void noSuchOperationWhenThereAre300() {
+        new Run("there is no such OPERATION when there are 300")
+            .each(0, 300, "put(0, -1, 0, 0, #) -> #")
+            .refuses("IndexOutOfBoundsException", "give(300, 1)\n give(301, 1)\n give(-1, 1)")
+            .then("give(299, 1) -> 0\n count(2, 1) -> 1\n give(0, 1) -> 1\n count(2, 1) -> 1");
+    }
+
+    private static void noneMoreForOneThatWaits() {
+        new Run("how many more it holds: none for one that WAITS").then("""
+            put(0, -1, 0, 1, 0) -> 0
+            put(0, 0, 0, 0, 1) -> 1
+            give(1, 1) -> 0
             count(1, 1) -> 0
+            count(2, 1) -> 1
+            """);
+    }
+
+    private static void noneMoreForOneThatIsHeld() {
+        new Run("how many more it holds: none for one that is held").then("""
+            put(0, -1, 0, 0, 1) -> 0
+            give(0, 0) -> 0
+            give(0, 1) -> 1
+            give(0, 1) -> 0
+            count(1, 1) -> 1
             count(2, 1) -> 0
+            """);
+    }
+
+    private static void oneThatNobodyElseHoldsStill() {
+        new Run("an OPERATION that is OVERWRITTEN everywhere can be given").then("""
+            put(0, -1, 0, 0, 1) -> 0
+            drop(0, -1, 0) -> 1
+            size(0, -1) -> 0
+            give(0, 1) -> 1
+            worth(1, -1, 0) -> 1
+            give(1, 1) -> 1
+            size(1, -1) -> 0
             """);
     }
 }

@@ -4,7 +4,12 @@ public final class Promise10LookTest {
         looksAtKeys();
         looksAtElements();
         looksAtSeveralLiveValues();
-        wrongInputs();
+        noReplica();
+        noWhat();
+        objectIsNotKnown();
+        keyIsNotThere();
+        elementIsNotThere();
+        lastOfAFullList();
         Run.end();
     }
 
@@ -59,24 +64,91 @@ public final class Promise10LookTest {
             """);
     }
 
-    private static void wrongInputs() {
-        new Run("wrong inputs").then("""
-            put(0, -1, 0, 2, 0) -> 0
-            put(0, -1, 1, 0, 0) -> 1
-            look(-1, -1, 0, 0) -> IllegalArgumentException
-            look(6, 9, 9, 9) -> IllegalArgumentException
-            look(0, -1, 0, -1) -> IllegalArgumentException
-            look(0, -1, 0, 4) -> IllegalArgumentException
-            look(0, 9, 9, 4) -> IllegalArgumentException
-            look(0, 9, 9, 3) -> NoSuchElementException
-            look(0, 1, 0, 0) -> NoSuchElementException
-            look(1, 0, 0, 0) -> NoSuchElementException
-            look(0, -1, 2, 0) -> IndexOutOfBoundsException
-            look(0, -1, -1, 3) -> IndexOutOfBoundsException
-            look(0, -1, 16, 3) -> IndexOutOfBoundsException
-            look(0, 0, 0, 2) -> IndexOutOfBoundsException
-            look(0, 0, -1, 2) -> IndexOutOfBoundsException
-            look(1, -1, 0, 1) -> IndexOutOfBoundsException
-            """);
+    private static void noReplica() {
+        new Run("IllegalArgumentException: replica")
+            .then("put(5, -1, 0, 0, 1) -> 0\n sync(5, 0) -> 1\n look(0, -1, 0, 1) -> 0\n look(5, -1, 0, 1) -> 0")
+            .refuses("IllegalArgumentException", """
+                look(-1, -1, 0, 0)
+                look(6, -1, 0, 0)
+                look(MIN, -1, 0, 0)
+                look(MAX, -1, 0, 0)
+                look(6, 9, 99, 9)
+                """);
+    }
+
+    private static void noWhat() {
+        new Run("IllegalArgumentException: what")
+            .then("put(0, -1, 7, 0, 1) -> 0\n look(0, -1, 7, 0) -> 0\n look(0, -1, 7, 3) -> 7")
+            .refuses("IllegalArgumentException", """
+                look(0, -1, 7, -1)
+                look(0, -1, 7, 4)
+                look(0, -1, 7, MIN)
+                look(0, -1, 7, MAX)
+                look(0, 9, 7, 4)
+                look(0, -1, 16, 4)
+                """);
+    }
+
+    private static void objectIsNotKnown() {
+        new Run("NoSuchElementException likewise")
+            .then("put(0, -1, 0, 2, 0) -> 0\n insert(0, 0, 0, 0, 0) -> 1\n add(0, 0, 0, 1) -> 2\n put(0, -1, 1, 0, 1) -> 3")
+            .then("put(1, -1, 0, 2, 0) -> 4\n insert(1, 4, 0, 2, 0) -> 5\n give(5, 0) -> 0\n drop(0, -1, 1) -> 6")
+            .refuses("NoSuchElementException", """
+                look(0, -2, 0, 0)
+                look(0, 1, 0, 0)
+                look(0, 2, 0, 0)
+                look(0, 3, 0, 0)
+                look(0, 4, 0, 0)
+                look(0, 5, 0, 0)
+                look(0, 6, 0, 0)
+                look(0, 7, 0, 0)
+                look(0, 300, 0, 0)
+                look(0, MIN, 0, 0)
+                look(0, MAX, 0, 0)
+                look(1, 0, 0, 0)
+                look(1, 0, 99, 0)
+                """);
+    }
+
+    private static void keyIsNotThere() {
+        new Run("IndexOutOfBoundsException: a key is not THERE")
+            .then("put(0, -1, 0, 0, 1) -> 0\n put(0, -1, 15, 0, 1) -> 1\n put(0, -1, 7, 0, 1) -> 2\n drop(0, -1, 7) -> 3")
+            .refuses("IndexOutOfBoundsException", """
+                look(0, -1, 1, 0)
+                look(0, -1, 7, 0)
+                look(0, -1, 7, 1)
+                look(0, -1, 7, 2)
+                look(0, -1, 7, 3)
+                look(0, -1, -1, 3)
+                look(0, -1, 16, 3)
+                look(0, -1, MIN, 3)
+                look(0, -1, MAX, 3)
+                look(1, -1, 0, 0)
+                """)
+            .then("look(0, -1, 0, 3) -> 0\n look(0, -1, 15, 3) -> 15");
+    }
+
+    private static void elementIsNotThere() {
+        new Run("IndexOutOfBoundsException: the element at an index is not THERE")
+            .then("put(0, -1, 0, 2, 0) -> 0")
+            .refuses("IndexOutOfBoundsException", "look(0, 0, 0, 0)\n look(0, 0, -1, 3)")
+            .then("insert(0, 0, 0, 0, 1) -> 1\n insert(0, 0, 1, 0, 2) -> 2\n drop(0, 0, 0) -> 3")
+            .refuses("IndexOutOfBoundsException", """
+                look(0, 0, -1, 3)
+                look(0, 0, 1, 0)
+                look(0, 0, 1, 1)
+                look(0, 0, 1, 2)
+                look(0, 0, 1, 3)
+                look(0, 0, MIN, 3)
+                look(0, 0, MAX, 3)
+                """)
+            .then("look(0, 0, 0, 3) -> 2");
+    }
+
+    private static void lastOfAFullList() {
+        new Run("the last element of a list as long as can be")
+            .then("put(0, -1, 0, 2, 0) -> 0")
+            .each(1, 300, "insert(0, 0, 0, 0, #) -> #")
+            .then("look(0, 0, 0, 3) -> 299\n look(0, 0, 298, 3) -> 1\n look(0, 0, 299, 3) -> IndexOutOfBoundsException");
     }
 }

@@ -4,7 +4,12 @@ public final class Promise11WorthTest {
         worths();
         addsToOtherValuesDoNotCount();
         addsThatAreNotHeldDoNotCount();
-        wrongInputs();
+        noReplica();
+        objectIsNotKnown();
+        keyIsNotThere();
+        elementIsNotThere();
+        winnerIsNoNumber();
+        onlyTheWinnerMustBeANumber();
         Run.end();
     }
 
@@ -54,21 +59,85 @@ public final class Promise11WorthTest {
             """);
     }
 
-    private static void wrongInputs() {
-        new Run("wrong inputs").then("""
-            put(0, -1, 0, 2, 5) -> 0
-            put(0, -1, 1, 1, 5) -> 1
-            worth(-1, -1, 0) -> IllegalArgumentException
-            worth(6, 9, 9) -> IllegalArgumentException
-            worth(0, 9, 9) -> NoSuchElementException
-            worth(1, 0, 0) -> NoSuchElementException
-            worth(0, -1, 16) -> IndexOutOfBoundsException
-            worth(0, -1, 2) -> IndexOutOfBoundsException
-            worth(0, 0, 0) -> IndexOutOfBoundsException
-            worth(0, -1, 0) -> UnsupportedOperationException
-            worth(0, -1, 1) -> UnsupportedOperationException
-            insert(0, 0, 0, 1, 5) -> 2
-            worth(0, 0, 0) -> UnsupportedOperationException
-            """);
+    private static void noReplica() {
+        new Run("likewise: replica")
+            .then("put(5, -1, 0, 0, 4) -> 0\n sync(5, 0) -> 1\n worth(0, -1, 0) -> 4\n worth(5, -1, 0) -> 4")
+            .refuses("IllegalArgumentException", """
+                worth(-1, -1, 0)
+                worth(6, -1, 0)
+                worth(MIN, -1, 0)
+                worth(MAX, -1, 0)
+                worth(6, 9, 99)
+                """);
+    }
+
+    private static void objectIsNotKnown() {
+        new Run("likewise: the OBJECT is not known")
+            .then("put(0, -1, 0, 2, 0) -> 0\n insert(0, 0, 0, 0, 0) -> 1\n add(0, 0, 0, 1) -> 2\n put(0, -1, 1, 0, 1) -> 3")
+            .then("put(1, -1, 0, 2, 0) -> 4\n insert(1, 4, 0, 2, 0) -> 5\n give(5, 0) -> 0\n drop(0, -1, 1) -> 6")
+            .refuses("NoSuchElementException", """
+                worth(0, -2, 0)
+                worth(0, 1, 0)
+                worth(0, 2, 0)
+                worth(0, 3, 0)
+                worth(0, 4, 0)
+                worth(0, 5, 0)
+                worth(0, 6, 0)
+                worth(0, 7, 0)
+                worth(0, 300, 0)
+                worth(0, MIN, 0)
+                worth(0, MAX, 0)
+                worth(1, 0, 0)
+                worth(1, 0, 99)
+                """);
+    }
+
+    private static void keyIsNotThere() {
+        new Run("likewise: a key is not THERE")
+            .then("put(0, -1, 0, 0, 1) -> 0\n put(0, -1, 15, 0, 1) -> 1\n put(0, -1, 7, 1, 1) -> 2\n drop(0, -1, 7) -> 3")
+            .refuses("IndexOutOfBoundsException", """
+                worth(0, -1, 1)
+                worth(0, -1, 7)
+                worth(0, -1, -1)
+                worth(0, -1, 16)
+                worth(0, -1, MIN)
+                worth(0, -1, MAX)
+                worth(1, -1, 0)
+                """)
+            .then("worth(0, -1, 0) -> 1\n worth(0, -1, 15) -> 1");
+    }
+
+    private static void elementIsNotThere() {
+        new Run("likewise: the element at an index is not THERE")
+            .then("put(0, -1, 0, 2, 0) -> 0")
+            .refuses("IndexOutOfBoundsException", "worth(0, 0, 0)\n worth(0, 0, -1)")
+            .then("insert(0, 0, 0, 0, 1) -> 1\n insert(0, 0, 1, 0, 2) -> 2\n drop(0, 0, 0) -> 3")
+            .refuses("IndexOutOfBoundsException", """
+                worth(0, 0, -1)
+                worth(0, 0, 1)
+                worth(0, 0, MIN)
+                worth(0, 0, MAX)
+                """)
+            .then("worth(0, 0, 0) -> 2");
+    }
+
+    private static void winnerIsNoNumber() {
+        new Run("UnsupportedOperationException: it is no NUMBER")
+            .then("put(0, -1, 0, 1, 5) -> 0\n put(0, -1, 1, 2, 5) -> 1\n insert(0, 1, 0, 2, 5) -> 2\n insert(0, 1, 0, 0, 5) -> 3")
+            .then("set(0, 1, 0, 1, 5) -> 4")
+            .refuses("UnsupportedOperationException", """
+                worth(0, -1, 0)
+                worth(0, -1, 1)
+                worth(0, 1, 0)
+                worth(0, 1, 1)
+                """)
+            .then("set(0, 1, 0, 0, 6) -> 5\n worth(0, 1, 0) -> 6");
+    }
+
+    private static void onlyTheWinnerMustBeANumber() {
+        new Run("the WINNER is no NUMBER although another LIVE VALUE is")
+            .then("put(0, -1, 0, 0, 5) -> 0\n put(1, -1, 0, 1, 0) -> 1\n put(2, -1, 0, 0, 6) -> 2\n sync(0, 1) -> 1")
+            .refuses("UnsupportedOperationException", "worth(1, -1, 0)")
+            .then("sync(1, 2) -> 2\n look(2, -1, 0, 2) -> 3\n worth(2, -1, 0) -> 6");
     }
 }

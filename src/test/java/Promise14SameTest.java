@@ -8,7 +8,12 @@ public final class Promise14SameTest {
         differsDeepInside();
         onlyWinnersAreLookedAt();
         veryDeep();
-        wrongInputs();
+        noReplicas();
+        emptyOnes();
+        oneMoreAtTheEnd();
+        worthsWrap();
+        numbersOfOperationsDoNotMatter();
+        whatWaitsIsNotShown();
         Run.end();
     }
 
@@ -129,14 +134,106 @@ public final class Promise14SameTest {
             """);
     }
 
-    private static void wrongInputs() {
-        new Run("wrong inputs").then("""
-            same(-1, 0) -> IllegalArgumentException
-            same(0, -1) -> IllegalArgumentException
-            same(6, 0) -> IllegalArgumentException
-            same(0, 6) -> IllegalArgumentException
-            same(6, 6) -> IllegalArgumentException
+    private static void noReplicas() {
+        new Run("IllegalArgumentException: there are none")
+            .then("put(0, -1, 0, 0, 1) -> 0")
+            .refuses("IllegalArgumentException", """
+                same(-1, 0)
+                same(0, -1)
+                same(6, 0)
+                same(0, 6)
+                same(MIN, 0)
+                same(0, MIN)
+                same(MAX, 0)
+                same(0, MAX)
+                same(6, 6)
+                same(-1, -1)
+                """)
+            .then("same(0, 5) -> false\n same(5, 0) -> false\n same(5, 5) -> true");
+    }
+
+    private static void emptyOnes() {
+        new Run("nothing to show").then("""
             same(0, 5) -> true
+            put(0, -1, 0, 0, 1) -> 0
+            drop(0, -1, 0) -> 1
+            same(0, 5) -> true
+            put(0, -1, 0, 1, 0) -> 2
+            put(1, -1, 0, 2, 0) -> 3
+            same(0, 1) -> false
+            same(0, 5) -> false
+            put(2, -1, 0, 2, 0) -> 4
+            same(1, 2) -> true
+            insert(2, 4, 0, 0, 1) -> 5
+            same(1, 2) -> false
+            same(2, 1) -> false
+            drop(2, 4, 0) -> 6
+            same(1, 2) -> true
+            """);
+    }
+
+    private static void oneMoreAtTheEnd() {
+        new Run("as many elements, and the same keys").then("""
+            put(0, -1, 0, 2, 0) -> 0
+            insert(0, 0, 0, 0, 1) -> 1
+            sync(0, 1) -> 2
+            insert(1, 0, 1, 0, 2) -> 2
+            same(0, 1) -> false
+            same(1, 0) -> false
+            drop(1, 0, 1) -> 3
+            same(0, 1) -> true
+            put(1, -1, 15, 0, 2) -> 4
+            same(0, 1) -> false
+            same(1, 0) -> false
+            put(0, -1, 14, 0, 2) -> 5
+            same(0, 1) -> false
+            """);
+    }
+
+    private static void worthsWrap() {
+        new Run("NUMBERS that are worth the same by wrapping").then("""
+            put(0, -1, 0, 0, MAX) -> 0
+            put(1, -1, 0, 0, MIN) -> 1
+            same(0, 1) -> false
+            add(0, -1, 0, 1) -> 2
+            same(0, 1) -> true
+            add(1, -1, 0, MIN) -> 3
+            same(0, 1) -> false
+            put(2, -1, 0, 0, 0) -> 4
+            same(1, 2) -> true
+            """);
+    }
+
+    private static void numbersOfOperationsDoNotMatter() {
+        new Run("whatever the numbers of OPERATIONS are").then("""
+            put(0, -1, 0, 2, 0) -> 0
+            insert(0, 0, 0, 1, 0) -> 1
+            put(0, 1, 3, 0, 5) -> 2
+            put(1, -1, 9, 0, 0) -> 3
+            drop(1, -1, 9) -> 4
+            put(1, -1, 0, 2, 0) -> 5
+            insert(1, 5, 0, 0, 0) -> 6
+            set(1, 5, 0, 1, 0) -> 7
+            put(1, 7, 3, 0, 2) -> 8
+            same(0, 1) -> false
+            add(1, 7, 3, 3) -> 9
+            same(0, 1) -> true
+            """);
+    }
+
+    private static void whatWaitsIsNotShown() {
+        new Run("what WAITS, and what is held but not shown, does not matter").then("""
+            put(0, -1, 0, 1, 0) -> 0
+            put(0, 0, 0, 0, 1) -> 1
+            drop(0, -1, 0) -> 2
+            give(1, 1) -> 0
+            same(0, 1) -> true
+            give(0, 1) -> 2
+            same(0, 1) -> false
+            give(2, 1) -> 1
+            same(0, 1) -> true
+            put(0, 0, 1, 0, 9) -> 3
+            same(0, 1) -> true
             """);
     }
 }
