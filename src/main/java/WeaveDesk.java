@@ -168,7 +168,7 @@ public final class WeaveDesk {
         Replica left = replicaNamed(a);
         Replica right = replicaNamed(b);
         walk.begin(root, root);
-        for (int i = 0; i < walk.length; i++) {
+        for (int i = 0; i < walk.length && i <= MOST_OPERATIONS; i++) {
             if (!placesMatch(left, walk.left[i], right, walk.right[i])) {
                 return false;
             }
@@ -319,7 +319,7 @@ public final class WeaveDesk {
 
     private int howManyReached(Replica replica) {
         walk.begin(root, root);
-        for (int i = 0; i < walk.length; i++) {
+        for (int i = 0; i < walk.length && i <= MOST_OPERATIONS; i++) {
             for (Place p = replica.firstThere(walk.left[i].first); p != null; p = replica.firstThere(p.next)) {
                 Operation winner = replica.liveValue(p, 0);
                 if (winner != null && winner.container != null) {

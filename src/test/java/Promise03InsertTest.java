@@ -156,7 +156,8 @@ public final class Promise03InsertTest {
 
     private static void noReplica() {
         new Run("IllegalArgumentException likewise: replica")
-            .then("put(0, -1, 0, 2, 0) -> 0\n put(5, -1, 0, 2, 0) -> 1\n insert(0, 0, 0, 0, 1) -> 2\n insert(5, 1, 0, 0, 1) -> 3")
+            .then("put(0, -1, 0, 2, 0) -> 0\n put(5, -1, 0, 2, 0) -> 1")
+            .then("insert(0, 0, 0, 0, 1) -> 2\n insert(5, 1, 0, 0, 1) -> 3")
             .refuses("IllegalArgumentException", """
                 insert(-1, 0, 0, 0, 1)
                 insert(6, 0, 0, 0, 1)
@@ -253,7 +254,8 @@ public final class Promise03InsertTest {
 
     private static void indexBeyondWhenSomeAreNotThere() {
         new Run("how many are THERE, not how many there have been")
-            .then("put(0, -1, 0, 2, 0) -> 0\n insert(0, 0, 0, 0, 1) -> 1\n insert(0, 0, 1, 0, 2) -> 2\n drop(0, 0, 0) -> 3")
+            .then("put(0, -1, 0, 2, 0) -> 0\n insert(0, 0, 0, 0, 1) -> 1")
+            .then("insert(0, 0, 1, 0, 2) -> 2\n drop(0, 0, 0) -> 3")
             .then("sync(0, 1) -> 4\n insert(1, 0, 1, 0, 9) -> 4")
             .refuses("IndexOutOfBoundsException", """
                 insert(0, 0, 2, 0, 1)
@@ -273,6 +275,7 @@ public final class Promise03InsertTest {
                 """)
             .refuses("NoSuchElementException", "insert(0, -1, 0, 0, 1)\n insert(1, 0, 0, 0, 1)")
             .refuses("IllegalArgumentException", "insert(0, 0, 0, 3, 1)\n insert(6, 0, 0, 0, 1)")
-            .then("size(0, 0) -> 299\n worth(0, 0, 0) -> 1\n worth(0, 0, 298) -> 299\n sync(0, 2) -> 300\n same(0, 2) -> true");
+            .then("size(0, 0) -> 299\n worth(0, 0, 0) -> 1\n worth(0, 0, 298) -> 299")
+            .then("sync(0, 2) -> 300\n same(0, 2) -> true");
     }
 }

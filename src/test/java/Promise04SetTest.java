@@ -105,7 +105,8 @@ public final class Promise04SetTest {
 
     private static void noKind() {
         new Run("likewise: kind")
-            .then("put(0, -1, 0, 2, 0) -> 0\n insert(0, 0, 0, 0, 1) -> 1\n set(0, 0, 0, 0, 1) -> 2\n set(0, 0, 0, 2, 1) -> 3")
+            .then("put(0, -1, 0, 2, 0) -> 0\n insert(0, 0, 0, 0, 1) -> 1")
+            .then("set(0, 0, 0, 0, 1) -> 2\n set(0, 0, 0, 2, 1) -> 3")
             .refuses("IllegalArgumentException", """
                 set(0, 0, 0, -1, 1)
                 set(0, 0, 0, 3, 1)
@@ -131,8 +132,9 @@ public final class Promise04SetTest {
 
     private static void objectIsNotKnown() {
         new Run("likewise: the OBJECT is not known")
-            .then("put(0, -1, 0, 2, 0) -> 0\n insert(0, 0, 0, 0, 0) -> 1\n add(0, 0, 0, 1) -> 2\n set(0, 0, 0, 0, 1) -> 3")
-            .then("put(1, -1, 0, 2, 0) -> 4\n insert(1, 4, 0, 2, 0) -> 5\n give(5, 0) -> 0")
+            .then("put(0, -1, 0, 2, 0) -> 0\n insert(0, 0, 0, 0, 0) -> 1")
+            .then("add(0, 0, 0, 1) -> 2\n put(0, -1, 1, 0, 1) -> 3")
+            .then("put(1, -1, 0, 2, 0) -> 4\n insert(1, 4, 0, 2, 0) -> 5\n give(5, 0) -> 0\n drop(0, -1, 1) -> 6")
             .refuses("NoSuchElementException", """
                 set(0, -2, 0, 0, 1)
                 set(0, 1, 0, 0, 1)
@@ -141,6 +143,7 @@ public final class Promise04SetTest {
                 set(0, 4, 0, 0, 1)
                 set(0, 5, 0, 0, 1)
                 set(0, 6, 0, 0, 1)
+                set(0, 7, 0, 0, 1)
                 set(0, 300, 0, 0, 1)
                 set(0, MIN, 0, 0, 1)
                 set(0, MAX, 0, 0, 1)
@@ -176,7 +179,8 @@ public final class Promise04SetTest {
 
     private static void droppedOnesAreNone() {
         new Run("one that is not THERE is none")
-            .then("put(0, -1, 0, 2, 0) -> 0\n insert(0, 0, 0, 0, 1) -> 1\n insert(0, 0, 1, 0, 2) -> 2\n drop(0, 0, 0) -> 3")
+            .then("put(0, -1, 0, 2, 0) -> 0\n insert(0, 0, 0, 0, 1) -> 1")
+            .then("insert(0, 0, 1, 0, 2) -> 2\n drop(0, 0, 0) -> 3")
             .refuses("IndexOutOfBoundsException", "set(0, 0, 1, 0, 1)")
             .then("set(0, 0, 0, 0, 22) -> 4\n operation(4, 4) -> 2\n drop(0, 0, 0) -> 5")
             .refuses("IndexOutOfBoundsException", "set(0, 0, 0, 0, 1)");

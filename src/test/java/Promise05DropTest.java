@@ -73,7 +73,8 @@ public final class Promise05DropTest {
 
     private static void noReplica() {
         new Run("IllegalArgumentException: replica")
-            .then("put(5, -1, 0, 0, 1) -> 0\n sync(5, 0) -> 1\n drop(0, -1, 0) -> 1\n drop(5, -1, 0) -> 2\n put(0, -1, 0, 0, 1) -> 3")
+            .then("put(5, -1, 0, 0, 1) -> 0\n sync(5, 0) -> 1\n drop(0, -1, 0) -> 1")
+            .then("drop(5, -1, 0) -> 2\n put(0, -1, 0, 0, 1) -> 3")
             .refuses("IllegalArgumentException", """
                 drop(-1, -1, 0)
                 drop(6, -1, 0)
@@ -85,7 +86,8 @@ public final class Promise05DropTest {
 
     private static void objectIsNotKnown() {
         new Run("the OBJECT is not known")
-            .then("put(0, -1, 0, 2, 0) -> 0\n insert(0, 0, 0, 0, 0) -> 1\n add(0, 0, 0, 1) -> 2\n put(0, -1, 1, 0, 1) -> 3")
+            .then("put(0, -1, 0, 2, 0) -> 0\n insert(0, 0, 0, 0, 0) -> 1")
+            .then("add(0, 0, 0, 1) -> 2\n put(0, -1, 1, 0, 1) -> 3")
             .then("put(1, -1, 0, 2, 0) -> 4\n insert(1, 4, 0, 2, 0) -> 5\n give(5, 0) -> 0\n drop(0, -1, 1) -> 6")
             .refuses("NoSuchElementException", """
                 drop(0, -2, 0)

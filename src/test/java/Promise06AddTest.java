@@ -125,7 +125,8 @@ public final class Promise06AddTest {
 
     private static void objectIsNotKnown() {
         new Run("likewise: the OBJECT is not known")
-            .then("put(0, -1, 0, 2, 0) -> 0\n insert(0, 0, 0, 0, 0) -> 1\n add(0, 0, 0, 1) -> 2\n put(0, -1, 1, 0, 1) -> 3")
+            .then("put(0, -1, 0, 2, 0) -> 0\n insert(0, 0, 0, 0, 0) -> 1")
+            .then("add(0, 0, 0, 1) -> 2\n put(0, -1, 1, 0, 1) -> 3")
             .then("put(1, -1, 0, 2, 0) -> 4\n insert(1, 4, 0, 2, 0) -> 5\n give(5, 0) -> 0\n drop(0, -1, 1) -> 6")
             .refuses("NoSuchElementException", """
                 add(0, -2, 0, 1)
@@ -146,7 +147,8 @@ public final class Promise06AddTest {
 
     private static void keyIsNotThere() {
         new Run("likewise: a key is not THERE (one beyond 0..15, too)")
-            .then("put(0, -1, 0, 0, 1) -> 0\n put(0, -1, 15, 0, 1) -> 1\n put(0, -1, 7, 0, 1) -> 2\n drop(0, -1, 7) -> 3")
+            .then("put(0, -1, 0, 0, 1) -> 0\n put(0, -1, 15, 0, 1) -> 1")
+            .then("put(0, -1, 7, 0, 1) -> 2\n drop(0, -1, 7) -> 3")
             .refuses("IndexOutOfBoundsException", """
                 add(0, -1, 1, 1)
                 add(0, -1, 7, 1)
@@ -175,7 +177,8 @@ public final class Promise06AddTest {
 
     private static void winnerIsNoNumber() {
         new Run("UnsupportedOperationException: the WINNER is no NUMBER")
-            .then("put(0, -1, 0, 1, 0) -> 0\n put(0, -1, 1, 2, 0) -> 1\n insert(0, 1, 0, 2, 0) -> 2\n insert(0, 1, 0, 0, 5) -> 3")
+            .then("put(0, -1, 0, 1, 0) -> 0\n put(0, -1, 1, 2, 0) -> 1")
+            .then("insert(0, 1, 0, 2, 0) -> 2\n insert(0, 1, 0, 0, 5) -> 3")
             .then("set(0, 1, 0, 1, 5) -> 4")
             .refuses("UnsupportedOperationException", """
                 add(0, -1, 0, 1)
@@ -190,14 +193,16 @@ public final class Promise06AddTest {
     private static void onlyTheWinnerMustBeANumber() {
         new Run("the WINNER, not another LIVE VALUE")
             .then("put(0, -1, 0, 1, 0) -> 0\n put(1, -1, 0, 0, 5) -> 1\n put(2, -1, 0, 2, 0) -> 2")
-            .then("sync(0, 1) -> 1\n add(1, -1, 0, 1) -> 3\n operation(3, 7) -> 1\n sync(1, 2) -> 3\n look(2, -1, 0, 2) -> 3")
+            .then("sync(0, 1) -> 1\n add(1, -1, 0, 1) -> 3\n operation(3, 7) -> 1")
+            .then("sync(1, 2) -> 3\n look(2, -1, 0, 2) -> 3")
             .refuses("UnsupportedOperationException", "add(2, -1, 0, 1)")
             .then("worth(1, -1, 0) -> 6");
     }
 
     private static void kindIsLookedAtBeforeHowManyThereAre() {
         new Run("looked at before how many there are")
-            .then("put(0, -1, 0, 0, 0) -> 0\n put(0, -1, 1, 1, 0) -> 1\n put(0, -1, 2, 2, 0) -> 2\n insert(0, 2, 0, 2, 0) -> 3")
+            .then("put(0, -1, 0, 0, 0) -> 0\n put(0, -1, 1, 1, 0) -> 1")
+            .then("put(0, -1, 2, 2, 0) -> 2\n insert(0, 2, 0, 2, 0) -> 3")
             .each(4, 300, "add(0, -1, 0, 1) -> #")
             .refuses("UnsupportedOperationException", """
                 add(0, -1, 1, 1)

@@ -14,7 +14,7 @@ public final class Promise08GiveTest {
         noSuchOperationWhenThereAre300();
         noneMoreForOneThatWaits();
         noneMoreForOneThatIsHeld();
-        oneThatNobodyElseHoldsStill();
+        overwrittenOnesCanBeGiven();
         Run.end();
     }
 
@@ -190,7 +190,7 @@ public final class Promise08GiveTest {
             """);
     }
 
-    private static void oneThatNobodyElseHoldsStill() {
+    private static void overwrittenOnesCanBeGiven() {
         new Run("an OPERATION that is OVERWRITTEN everywhere can be given").then("""
             put(0, -1, 0, 0, 1) -> 0
             drop(0, -1, 0) -> 1

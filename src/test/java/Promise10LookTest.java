@@ -91,7 +91,8 @@ public final class Promise10LookTest {
 
     private static void objectIsNotKnown() {
         new Run("NoSuchElementException likewise")
-            .then("put(0, -1, 0, 2, 0) -> 0\n insert(0, 0, 0, 0, 0) -> 1\n add(0, 0, 0, 1) -> 2\n put(0, -1, 1, 0, 1) -> 3")
+            .then("put(0, -1, 0, 2, 0) -> 0\n insert(0, 0, 0, 0, 0) -> 1")
+            .then("add(0, 0, 0, 1) -> 2\n put(0, -1, 1, 0, 1) -> 3")
             .then("put(1, -1, 0, 2, 0) -> 4\n insert(1, 4, 0, 2, 0) -> 5\n give(5, 0) -> 0\n drop(0, -1, 1) -> 6")
             .refuses("NoSuchElementException", """
                 look(0, -2, 0, 0)
@@ -112,7 +113,8 @@ public final class Promise10LookTest {
 
     private static void keyIsNotThere() {
         new Run("IndexOutOfBoundsException: a key is not THERE")
-            .then("put(0, -1, 0, 0, 1) -> 0\n put(0, -1, 15, 0, 1) -> 1\n put(0, -1, 7, 0, 1) -> 2\n drop(0, -1, 7) -> 3")
+            .then("put(0, -1, 0, 0, 1) -> 0\n put(0, -1, 15, 0, 1) -> 1")
+            .then("put(0, -1, 7, 0, 1) -> 2\n drop(0, -1, 7) -> 3")
             .refuses("IndexOutOfBoundsException", """
                 look(0, -1, 1, 0)
                 look(0, -1, 7, 0)
@@ -149,6 +151,7 @@ public final class Promise10LookTest {
         new Run("the last element of a list as long as can be")
             .then("put(0, -1, 0, 2, 0) -> 0")
             .each(1, 300, "insert(0, 0, 0, 0, #) -> #")
-            .then("look(0, 0, 0, 3) -> 299\n look(0, 0, 298, 3) -> 1\n look(0, 0, 299, 3) -> IndexOutOfBoundsException");
+            .then("look(0, 0, 0, 3) -> 299\n look(0, 0, 298, 3) -> 1")
+            .then("look(0, 0, 299, 3) -> IndexOutOfBoundsException");
     }
 }

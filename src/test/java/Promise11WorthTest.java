@@ -73,7 +73,8 @@ public final class Promise11WorthTest {
 
     private static void objectIsNotKnown() {
         new Run("likewise: the OBJECT is not known")
-            .then("put(0, -1, 0, 2, 0) -> 0\n insert(0, 0, 0, 0, 0) -> 1\n add(0, 0, 0, 1) -> 2\n put(0, -1, 1, 0, 1) -> 3")
+            .then("put(0, -1, 0, 2, 0) -> 0\n insert(0, 0, 0, 0, 0) -> 1")
+            .then("add(0, 0, 0, 1) -> 2\n put(0, -1, 1, 0, 1) -> 3")
             .then("put(1, -1, 0, 2, 0) -> 4\n insert(1, 4, 0, 2, 0) -> 5\n give(5, 0) -> 0\n drop(0, -1, 1) -> 6")
             .refuses("NoSuchElementException", """
                 worth(0, -2, 0)
@@ -94,7 +95,8 @@ public final class Promise11WorthTest {
 
     private static void keyIsNotThere() {
         new Run("likewise: a key is not THERE")
-            .then("put(0, -1, 0, 0, 1) -> 0\n put(0, -1, 15, 0, 1) -> 1\n put(0, -1, 7, 1, 1) -> 2\n drop(0, -1, 7) -> 3")
+            .then("put(0, -1, 0, 0, 1) -> 0\n put(0, -1, 15, 0, 1) -> 1")
+            .then("put(0, -1, 7, 1, 1) -> 2\n drop(0, -1, 7) -> 3")
             .refuses("IndexOutOfBoundsException", """
                 worth(0, -1, 1)
                 worth(0, -1, 7)
@@ -123,7 +125,8 @@ public final class Promise11WorthTest {
 
     private static void winnerIsNoNumber() {
         new Run("UnsupportedOperationException: it is no NUMBER")
-            .then("put(0, -1, 0, 1, 5) -> 0\n put(0, -1, 1, 2, 5) -> 1\n insert(0, 1, 0, 2, 5) -> 2\n insert(0, 1, 0, 0, 5) -> 3")
+            .then("put(0, -1, 0, 1, 5) -> 0\n put(0, -1, 1, 2, 5) -> 1")
+            .then("insert(0, 1, 0, 2, 5) -> 2\n insert(0, 1, 0, 0, 5) -> 3")
             .then("set(0, 1, 0, 1, 5) -> 4")
             .refuses("UnsupportedOperationException", """
                 worth(0, -1, 0)

@@ -69,7 +69,8 @@ public final class Promise12ValueTest {
 
     private static void objectIsNotKnown() {
         new Run("likewise: the OBJECT is not known")
-            .then("put(0, -1, 0, 2, 0) -> 0\n insert(0, 0, 0, 0, 0) -> 1\n add(0, 0, 0, 1) -> 2\n put(0, -1, 1, 0, 1) -> 3")
+            .then("put(0, -1, 0, 2, 0) -> 0\n insert(0, 0, 0, 0, 0) -> 1")
+            .then("add(0, 0, 0, 1) -> 2\n put(0, -1, 1, 0, 1) -> 3")
             .then("put(1, -1, 0, 2, 0) -> 4\n insert(1, 4, 0, 2, 0) -> 5\n give(5, 0) -> 0\n drop(0, -1, 1) -> 6")
             .refuses("NoSuchElementException", """
                 value(0, -2, 0, 0)
@@ -90,7 +91,8 @@ public final class Promise12ValueTest {
 
     private static void keyIsNotThere() {
         new Run("likewise: a key is not THERE")
-            .then("put(0, -1, 0, 0, 1) -> 0\n put(0, -1, 15, 0, 1) -> 1\n put(0, -1, 7, 1, 1) -> 2\n drop(0, -1, 7) -> 3")
+            .then("put(0, -1, 0, 0, 1) -> 0\n put(0, -1, 15, 0, 1) -> 1")
+            .then("put(0, -1, 7, 1, 1) -> 2\n drop(0, -1, 7) -> 3")
             .refuses("IndexOutOfBoundsException", """
                 value(0, -1, 1, 0)
                 value(0, -1, 7, 0)
